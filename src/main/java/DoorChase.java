@@ -14,9 +14,9 @@ public final class DoorChase {
     private static final int NEVER = -1;
 
     private final House house = new House();
+    // Looked out anew whenever rooms, doors or locks change: a chase asks it far more often.
     private final Outlook outlook = new Outlook();
     private final Outlook outlookIfLocked = new Outlook();
-    private boolean isOutlookOld = true;
 
     private int now;
     private boolean isGoingOn;
@@ -34,8 +34,9 @@ public final class DoorChase {
         if (house.roomCount >= MOST_ROOMS) {
             throw new IllegalStateException("there are 8 rooms");
         }
-        isOutlookOld = true;
-        return house.makeRoom(isSafe);
+        int room = house.makeRoom(isSafe);
+        outlook.lookOut(house, NONE);
+        return room;
     }
 
     public int addDoor(int one, int other, int period, int rest)
@@ -54,14 +55,15 @@ public final class DoorChase {
         if (house.joining(one, other) != NONE) {
             throw new IllegalStateException("a door joins these rooms");
         }
-        isOutlookOld = true;
-        return house.makeDoor(one, other, period, rest);
+        int door = house.makeDoor(one, other, period, rest);
+        outlook.lookOut(house, NONE);
+        return door;
     }
 
     public boolean turnLock(int door) throws IndexOutOfBoundsException {
         requireDoor(door);
-        isOutlookOld = true;
         house.locked[door] = !house.locked[door];
+        outlook.lookOut(house, NONE);
         return house.locked[door];
     }
 
@@ -99,7 +101,7 @@ public final class DoorChase {
     public boolean go(int room) throws IndexOutOfBoundsException, IllegalStateException {
         requireRoom(room);
         requireChase();
-        if (!freshOutlook().canGo(phaseAfter(0), whoGoesIn(), room)) {
+        if (!outlook.canGo(phaseAfter(0), whoGoesIn(), room)) {
             throw new IllegalStateException("who goes can't go there");
         }
         moveTo(room);
@@ -420,17 +422,8 @@ public final class DoorChase {
         }
     }
 
-    // The outlook is looked out anew only when rooms, doors or locks have changed since.
-    private Outlook freshOutlook() {
-        if (isOutlookOld) {
-            outlook.lookOut(house, NONE);
-            isOutlookOld = false;
-        }
-        return outlook;
-    }
-
     private int turnsOf(int catsRoom, int mousesRoom) {
-        return freshOutlook().turnsToCatchFrom(phaseAfter(0), catsRoom, mousesRoom);
+        return outlook.turnsToCatchFrom(phaseAfter(0), catsRoom, mousesRoom);
     }
 
     private int turnsToCatchIfLocked(int door) {
@@ -457,7 +450,7 @@ public final class DoorChase {
             }
             int phase = phaseAfter(turns);
             if (isCatsPhase(phase) == isCat) {
-                places = freshOutlook().spread(phase, places);
+                places = outlook.spread(phase, places);
             }
         }
         return NEVER;
@@ -467,8 +460,8 @@ public final class DoorChase {
         int best = mouse;
         int most = NEVER;
         for (int room = 0; room < house.roomCount; room++) {
-            if (freshOutlook().canGo(phaseAfter(0), mouse, room)) {
-                int turns = freshOutlook().turnsToCatchFrom(phaseAfter(1), cat, room);
+            if (outlook.canGo(phaseAfter(0), mouse, room)) {
+                int turns = outlook.turnsToCatchFrom(phaseAfter(1), cat, room);
                 if (turns == NEVER) {
                     return room;
                 }
@@ -485,8 +478,8 @@ public final class DoorChase {
         int best = NONE;
         int fewest = NEVER;
         for (int room = 0; room < house.roomCount; room++) {
-            if (freshOutlook().canGo(phaseAfter(0), cat, room)) {
-                int turns = freshOutlook().turnsToCatchFrom(phaseAfter(1), room, mouse);
+            if (outlook.canGo(phaseAfter(0), cat, room)) {
+                int turns = outlook.turnsToCatchFrom(phaseAfter(1), room, mouse);
                 if (turns != NEVER && (best == NONE || turns < fewest)) {
                     fewest = turns;
                     best = room;
@@ -500,7 +493,7 @@ public final class DoorChase {
         int best = cat;
         int least = MOST_ROOMS + 1;
         for (int room = 0; room < house.roomCount; room++) {
-            if (freshOutlook().canGo(phaseAfter(0), cat, room)) {
+            if (outlook.canGo(phaseAfter(0), cat, room)) {
                 int doors = house.doorsFrom(room, mouse);
                 int far = doors == NONE ? MOST_ROOMS : doors;
                 if (far < least) {
@@ -518,7 +511,7 @@ public final class DoorChase {
     }
 
     private static boolean holds(int set, int room) {
-        return (set & bit(room)) != 0;
+        return (set >> room & 1) == 1;
     }
 
     /** The rooms and the doors; whoever calls has looked at the numbers and limits before. */

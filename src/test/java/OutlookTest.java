@@ -13,11 +13,14 @@ final class OutlookTest {
         safeNow();
         bestGoOfMouse();
         bestGoOfCat();
+        bestGoOfCatByTheSoonestWay();
         bestGoOfCatThatNeverCatches();
+        houseThatChanges();
         pairs();
         pairsWithoutAny();
         bestDoorToLock();
         noDoorToLock();
+        fullHouse();
         Due.end("OutlookTest");
     }
 
@@ -147,6 +150,9 @@ final class OutlookTest {
         Due.is("the cat in 0, on its turn", x.safeNow(), 2);
         x.turnLock(2);
         Due.is("the safe room locked", x.safeNow(), 1);
+        DoorChase z = Houses.row("s..");
+        z.begin(2, 0);
+        Due.is("the mouse in the room 0 too", z.safeNow(), 2);
         DoorChase y = Houses.row("..");
         y.begin(0, 1);
         Due.is("nowhere", y.safeNow(), 0);
@@ -190,6 +196,9 @@ final class OutlookTest {
         x.begin(2, 3);
         x.go(3);
         Due.is("catching it", x.bestGo(), 3);
+        x.begin(1, 0);
+        x.go(0);
+        Due.is("catching it in the room 0", x.bestGo(), 0);
         // Doors 0-1, 0-2, 1-3 and 2-3; behind 3 the mouse sits in 4. Both ways are as short.
         DoorChase y = Houses.withRooms(".....");
         y.addDoor(0, 2, 1, 0);
@@ -202,6 +211,49 @@ final class OutlookTest {
         Due.is("the smallest of two ways as short", y.bestGo(), 1);
         y.turnLock(2);
         Due.is("the way that is left", y.bestGo(), 2);
+    }
+
+    // The mouse sits in 4, whose doors are shut in its turns. The shortest way leads through the
+    // safe room 1, so that to stay in 0 is the nearest; those by 2 and by 3 are open to the cat.
+    private static void bestGoOfCatByTheSoonestWay() {
+        DoorChase x = Houses.withRooms(".s......");
+        x.addDoor(0, 1, 1, 0);
+        x.addDoor(1, 4, 2, 0);
+        x.addDoor(0, 2, 1, 0);
+        x.addDoor(2, 5, 1, 0);
+        x.addDoor(5, 6, 1, 0);
+        x.addDoor(6, 4, 2, 0);
+        x.addDoor(0, 3, 1, 0);
+        x.addDoor(3, 7, 1, 0);
+        x.addDoor(7, 4, 2, 0);
+        x.begin(0, 4);
+        x.go(4);
+        x.turnLock(8);
+        Due.is("by the way of four doors", x.bestGo(), 2);
+        x.turnLock(8);
+        Due.is("by the way of three doors", x.bestGo(), 3);
+        x.addDoor(2, 4, 2, 0);
+        Due.is("by the way of two doors", x.bestGo(), 2);
+        x.addDoor(0, 4, 2, 0);
+        Due.is("by the way of one door", x.bestGo(), 4);
+    }
+
+    private static void houseThatChanges() {
+        DoorChase x = Houses.withRooms("...");
+        Due.is("without doors", x.begin(0, 2), -1);
+        x.addDoor(0, 1, 1, 0);
+        Due.is("with one door", x.turnsToCatch(), -1);
+        x.addDoor(1, 2, 1, 0);
+        Due.is("with two doors", x.turnsToCatch(), 4);
+        Due.is("everywhere", x.safeNow(), 0);
+        x.addRoom(false);
+        Due.is("but in a new room", x.safeNow(), 1);
+        Due.is("from a new room", x.turnsFrom(3, 3), 0);
+        x.addDoor(2, 3, 1, 0);
+        Due.is("with three doors", x.turnsToCatch(), 6);
+        x.turnLock(1);
+        Due.is("with a locked door", x.turnsToCatch(), -1);
+        Due.is("the new room and the one next to it", x.safeNow(), 2);
     }
 
     private static void bestGoOfCatThatNeverCatches() {
@@ -302,5 +354,31 @@ final class OutlookTest {
         DoorChase z = Houses.withRooms("..");
         z.begin(0, 1);
         Due.is("without doors", z.bestDoorToLock(), -1);
+    }
+
+    // Eight rooms and 14 doors, the last of them between the cat and the mouse.
+    private static void fullHouse() {
+        DoorChase x = Houses.ring("........");
+        for (int room = 0; room < 5; room++) {
+            x.addDoor(room, room + 2, 1, 0);
+        }
+        x.addDoor(3, 7, 1, 0);
+        x.begin(3, 7);
+        Due.is("never caught in all that", x.turnsToCatch(), -1);
+        Due.is("no door to lock", x.bestDoorToLock(), -1);
+        x.go(7);
+        Due.is("caught on the cat's turn", x.turnsToCatch(), 1);
+        Due.is("the last door to lock", x.bestDoorToLock(), 13);
+        Due.is("bestGo to the last room", x.bestGo(), 7);
+        // Two for each door; and each way out of 1 ends next to 2, and each out of 5 next to 4,
+        // so that a cat in 4 catches a mouse in 1 by going to 2, and one in 2 that in 5, in 3 turns.
+        Due.is("pairs", x.pairsCaught(), 30);
+        Due.is("longest", x.longestChase(), 3);
+        Due.is("mean", x.meanTurns(), 34.0 / 30.0);
+        Due.is("safeNow: but for 1, 2, 4, 5 and 7, next to it, and 3", x.safeNow(), 2);
+        x.turnLock(13);
+        Due.is("without it", x.turnsToCatch(), -1);
+        Due.is("catArrives", x.catArrives(7), 5);
+        Due.is("mouseArrives", x.mouseArrives(3), 6);
     }
 }
