@@ -9,6 +9,8 @@ final class DigestTest {
         chaseThatGoesOn();
         chaseThatIsOver();
         fullHouseWrapsAround();
+        wrapsAroundAsNumbersOf64Bits();
+        whatHappensIsToldByIt();
         Due.end("DigestTest");
     }
 
@@ -68,5 +70,60 @@ final class DigestTest {
         }
         Due.is("eight rooms", x.digest(), joined(numbers));
         Due.is("eight rooms again", x.digest(), joined(numbers));
+    }
+
+    // Worked out apart from any Java, with numbers of any length, and cut to 64 bits at the end.
+    private static void wrapsAroundAsNumbersOf64Bits() {
+        Due.is("empty", new DoorChase().digest(), -6554011722052653307L);
+        DoorChase x = Houses.row("........");
+        x.begin(0, 7);
+        x.go(7);
+        Due.is("a row of eight rooms, on the cat's turn", x.digest(), 3270642880425062295L);
+    }
+
+    // Each call changes one of the numbers at least; and what only asks, none.
+    private static void whatHappensIsToldByIt() {
+        DoorChase x = new DoorChase();
+        long d = changed(x, x.digest(), "addRoom 1");
+        d = changed(x, d, "addRoom 0");
+        d = changed(x, d, "addRoom 0");
+        d = changed(x, d, "addDoor 0 1 1 0");
+        d = changed(x, d, "addDoor 1 2 2 0");
+        d = changed(x, d, "putCheese 2 9");
+        d = changed(x, d, "turnLock 0");
+        d = changed(x, d, "begin 1 2");
+        d = changed(x, d, "go 2");
+        d = changed(x, d, "turnLock 1");
+        d = changed(x, d, "play 2");
+        Due.is("asked once more", x.digest(), d);
+    }
+
+    private static long changed(DoorChase x, long before, String call) {
+        Runs.made(x, call);
+        Due.is("changed by " + call, x.digest() != before, true);
+        Due.is("as told, behind " + call, x.digest(), toldBy(x));
+        return x.digest();
+    }
+
+    private static long toldBy(DoorChase x) {
+        long d = joined(x.turn(), x.rooms(), x.doors(), one(x.isOn()), one(x.isCaught()), x.catIn(), x.mouseIn(),
+                x.eaten(), x.turnsToCatch(), x.safeNow(), x.bestGo(), x.pairsCaught(), x.longestChase(),
+                x.bestDoorToLock());
+        for (int room = 0; room < x.rooms(); room++) {
+            d = d * 31 + one(x.isSafe(room));
+            d = d * 31 + x.cheeseIn(room);
+            d = d * 31 + x.doorsOf(room);
+            d = d * 31 + x.distance(0, room);
+        }
+        for (int door = 0; door < x.doors(); door++) {
+            d = d * 31 + one(x.isLocked(door));
+            d = d * 31 + one(x.isOpen(door));
+            d = d * 31 + x.turnsUntilOpen(door);
+        }
+        return d;
+    }
+
+    private static int one(boolean isSo) {
+        return isSo ? 1 : 0;
     }
 }
