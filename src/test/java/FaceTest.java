@@ -104,7 +104,8 @@ final class FaceTest {
         return all;
     }
 
-    private static String told(Method method) {
+    /** A method's head, without the names of its parameters. */
+    static String told(Method method) {
         return method.getReturnType().getSimpleName() + " " + method.getName()
                 + "(" + names(method.getParameterTypes()) + ") " + names(method.getExceptionTypes());
     }
